@@ -12,6 +12,7 @@ public final class CanalTest {
         lake(c);
         give(c);
         ice(c);
+        noIceUntold(c);
         iceOfTheLatestTelling(c);
         reach(c);
         c.end();
@@ -142,6 +143,16 @@ public final class CanalTest {
             x.day();
         }
         c.due("6: on the last day", x.reach(0, 2), 1);
+    }
+
+    private static void noIceUntold(Checks c) {
+        TributeFleet x = new TributeFleet(3);
+        for (int day = 0; day < 400; day++) {
+            x.day();
+        }
+        for (int i = 0; i < 3; i++) {
+            c.due("6: none was told, " + i, x.reach(i, 2), 0);
+        }
     }
 
     private static void iceOfTheLatestTelling(Checks c) {

@@ -117,6 +117,14 @@ public final class LeastTest {
             c.due("24: two are in haste, " + k, x.least(63, 0, k), both[k]);
         }
         c.due("24: one is late by a day", x.least(63, 0, -1), 1);
+        for (int i = 0; i < 6; i++) {
+            x.due(i, 0);
+        }
+        c.due("24: all are late", x.least(63, 0, -1), 21);
+        for (int i = 0; i < 6; i++) {
+            c.due("24: then one alone, " + i, x.least(1 << i, 0, -1), 1);
+            c.due("24: then two, " + i, x.least(1 | 2 << i, 0, -1), i < 5 ? 3 : -1);
+        }
     }
 
     private static void noneAtAll(Checks c) {

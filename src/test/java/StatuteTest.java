@@ -14,6 +14,7 @@ public final class StatuteTest {
         goodTexts(c);
         faults(c);
         faultsOfBytes(c);
+        faultsOfACutText(c);
         sixteenStatements(c);
         faultOfTheLatest(c);
         lawWithoutAny(c);
@@ -116,6 +117,12 @@ public final class StatuteTest {
         due(c, "loss 5  \n", 9);
         due(c, "los", 0);
         due(c, "losss 5;", 0);
+        due(c, "lossz 5;", 0);
+        due(c, "lossa 5;", 0);
+        due(c, "moss 5;", 0);
+        due(c, "lobs 5;", 0);
+        due(c, "lost 5;", 0);
+        due(c, "line 5;", 0);
         due(c, "  lossx 5;", 2);
         due(c, "loss5x;", 5);
         due(c, "loss 1234;", 5);
@@ -145,6 +152,7 @@ public final class StatuteTest {
         due(c, "days 1000 is 3;", 5);
         due(c, "days 0 in 3;", 7);
         due(c, "days 0 3;", 7);
+        due(c, "days 0 as 3;", 7);
         due(c, "days 0 is;", 9);
         due(c, "days 0 is fine;", 10);
         due(c, "days 0 is 3 3;", 12);
@@ -171,6 +179,18 @@ public final class StatuteTest {
         due(c, "loss 5;\u00ff", 7);
         due(c, "\u00e1", 0);
         due(c, "order told\u00a0;", 10);
+    }
+
+    /** Bytes behind the first n are no part of the text. */
+    private static void faultsOfACutText(Checks c) {
+        String text = "loss 55; fine 6;";
+        int[] places = {-1, 0, 0, 0, 4, 5, 6, 7, -1, -1, 9, 9, 9, 13, 14, 15, -1};
+        for (int n = 0; n < places.length; n++) {
+            TributeFleet x = new TributeFleet(3);
+            Texts.feed(x, text);
+            c.due("9: the first " + n, x.statute(n), places[n] == -1 ? 0 : -1);
+            c.due("10: fault of the first " + n, x.fault(), places[n]);
+        }
     }
 
     private static void due(Checks c, String text, int place) {

@@ -1,4 +1,4 @@
-/** Long runs of calls of all kinds with ordinary and extreme numbers: each answers, within its bounds. */
+/** Long runs of calls of all kinds, extreme numbers among them: each answers, within its bounds. */
 public final class BoundsTest {
     private static final int CALLS = 400;
     private static final int[] EXTREMES = {Integer.MIN_VALUE, Integer.MIN_VALUE + 9, -65536, -3, -2,

@@ -10,7 +10,8 @@ public final class CanalTest {
         c.sentence("Terms 1: REACHES 0 to n - 1 (3 to 12).", CanalTest::firstAndLastReach);
         c.sentence("Terms 1: each with WATER 0 to 1,000 (100 at first).", CanalTest::leastAndMostWater);
         c.sentence("2: WATER of a REACH is told: true; false: not as told.", CanalTest::water);
-        c.sentence("Terms 1: LOCK i lies between REACH i and i + 1 (i to n - 2).", CanalTest::firstAndLastLock);
+        c.sentence("Terms 1: LOCK i lies between REACH i and i + 1 (i to n - 2).",
+                CanalTest::firstAndLastLock);
         c.sentence("Terms 1: so many BOATS a DAY (1 to 60; 20 at first).", CanalTest::leastAndMostLockBoats);
         c.sentence("3: BOATS a DAY of a LOCK: true; false: not as told.", CanalTest::lock);
         c.sentence("Terms 1: LAKES, up to 4.", CanalTest::fourLakes);

@@ -14,7 +14,8 @@ public final class CountyTest {
         c.sentence("21: BAGS of a COUNTY are COMMUTED (1 on): coins.", CountyTest::commuteAtLeastOne);
         c.sentence("21: (at most ALLOTMENT less those so far).", CountyTest::commuteAtMostTheRest);
         c.sentence("21: NONE, doing nothing: not as told.", CountyTest::commuteNotAsTold);
-        c.sentence("21: at most ALLOTMENT (told anew, below what is COMMUTED).", CountyTest::commuteAfterALesserOne);
+        c.sentence("21: at most ALLOTMENT (told anew, below what is COMMUTED).",
+                CountyTest::commuteAfterALesserOne);
         c.sentence("22: ALLOTMENT (0), COMMUTED (1), coins paid (2).", CountyTest::ofACounty);
         c.sentence("22: BAGS that came (3).", CountyTest::bagsThatCame);
         c.sentence("22: OWED (4), Terms 3: may be below 0.", CountyTest::owed);

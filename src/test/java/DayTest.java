@@ -26,7 +26,8 @@ public final class DayTest {
         c.sentence("Terms 2 (b): in ORDER.", DayTest::orders);
         c.sentence("Terms 1: alike ones by numbers.", DayTest::alikeOnes);
         c.sentence("Terms 2 (b): in ORDER of the STATUTE in force.", DayTest::orderOfTheDay);
-        c.sentence("Terms 2 (b): if nothing of these bars it (the first tells why).", DayTest::theFirstTellsWhy);
+        c.sentence("Terms 2 (b): if nothing of these bars it (the first tells why).",
+                DayTest::theFirstTellsWhy);
         c.sentence("Terms 2 (b): 1 ICE in one of both REACHES.", DayTest::barredByIce);
         c.sentence("Terms 2 (b): 2 less WATER than 20 and its BOATS.", DayTest::barredByWater);
         c.sentence("Terms 2 (b): 3 the LOCK has fewer BOATS left on this DAY.", DayTest::barredByTheLock);
@@ -34,7 +35,8 @@ public final class DayTest {
         c.sentence("Terms 2 (b): 4 ahead of it in ORDER.", DayTest::aheadInOrder);
         c.sentence("Terms 2 (b): 4 in the same REACH.", DayTest::aheadInTheSameReach);
         c.sentence("Terms 2 (b): 4 didn't pass on this DAY.", DayTest::aheadOnThisDay);
-        c.sentence("Terms 2: Who passes takes its BOATS' number of WATER into the lower one.", DayTest::waterMoves);
+        c.sentence("Terms 2: Who passes takes its BOATS' number of WATER into the lower one.",
+                DayTest::waterMoves);
         c.sentence("Terms 2: (up to 1,000; the rest is gone).", DayTest::waterThatIsGone);
         c.sentence("Terms 2: None passes two LOCKS on a DAY.", DayTest::oneLockADay);
     }

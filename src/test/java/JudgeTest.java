@@ -8,12 +8,14 @@ public final class JudgeTest {
         c.sentence("16: JUDGED: OVER (0), SHORT (1), GOODS (2), COINS (3).", JudgeTest::eachOfOne);
         c.sentence("16: NONE: none such.", JudgeTest::noneSuch);
         c.sentence("16: NONE: it hasn't come.", JudgeTest::notYetCome);
-        c.sentence("Terms 3: by the STATUTE in force on the DAY on which it came.", JudgeTest::statuteOfTheDay);
+        c.sentence("Terms 3: by the STATUTE in force on the DAY on which it came.",
+                JudgeTest::statuteOfTheDay);
         c.sentence("Terms 3: by the STATUTE in force: where none is.", JudgeTest::withoutStatute);
         c.sentence("Terms 3: OVER: the DAYS above ALLOWED ones.", JudgeTest::overAllowed);
         c.sentence("Terms 3: OVER: in all REACHES but the last, added.", JudgeTest::overInAllReaches);
         c.sentence("Terms 3: OVER: the most DAYS that there are.", JudgeTest::mostDaysOver);
-        c.sentence("Terms 3: SHORT: BAGS lost above LOSS thousandths of what was loaded.", JudgeTest::shortOfBags);
+        c.sentence("Terms 3: SHORT: BAGS lost above LOSS thousandths of what was loaded.",
+                JudgeTest::shortOfBags);
         c.sentence("Terms 3: SHORT: (cut).", JudgeTest::shortIsCut);
         c.sentence("Terms 3: GOODS: private BAGS above PRIVATE times BOATS.", JudgeTest::goods);
         c.sentence("Terms 3: COINS: FINE times these three added.", JudgeTest::coins);

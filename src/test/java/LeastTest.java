@@ -16,7 +16,8 @@ public final class LeastTest {
         c.sentence("Terms 3: BOATS by the LOCK's BOATS a DAY, cut up.", LeastTest::daysAreCutUp);
         c.sentence("Terms 3: they pass one behind the other.", LeastTest::oneBehindTheOther);
         c.sentence("Terms 3: DAYS from TODAY on.", LeastTest::fromTodayOn);
-        c.sentence("Terms 3: LATE is by how many DAYS its end is above its due DAY.", LeastTest::lateAboveDueDay);
+        c.sentence("Terms 3: LATE is by how many DAYS its end is above its due DAY.",
+                LeastTest::lateAboveDueDay);
         c.sentence("Terms 3: and the first such order (by numbers).", LeastTest::theFirstOfAlikeOrders);
         c.sentence("Terms 3: the least sum of all orders.", LeastTest::againstAllOrders);
         c.end();

@@ -13,18 +13,21 @@ public final class SquadronTest {
         c.sentence("Terms 1: They begin in REACH 0, as they are told.", SquadronTest::beginInReachZero);
         c.sentence("7: A SQUADRON: its number. NONE, doing nothing: not as told, 12 are there.",
                 SquadronTest::squadron);
-        c.sentence("12: LEAVE to overtake: true; false, doing nothing: it's so.", SquadronTest::leaveThatIsSo);
+        c.sentence("12: LEAVE to overtake: true; false, doing nothing: it's so.",
+                SquadronTest::leaveThatIsSo);
         c.sentence("12: LEAVE: false, doing nothing: no such SQUADRON.", SquadronTest::leaveOfNoSquadron);
         c.sentence("Terms 2: LEAVE is given till it's taken back.", SquadronTest::leaveTillTakenBack);
         c.sentence("13: BAGS more are lost (1 on).", SquadronTest::loseAtLeastOne);
         c.sentence("13: BAGS more are lost (not more than are left).", SquadronTest::loseNoMoreThanAreLeft);
-        c.sentence("13: ahead of its coming. NONE, doing nothing: it has come.", SquadronTest::loseAheadOfItsComing);
+        c.sentence("13: ahead of its coming. NONE, doing nothing: it has come.",
+                SquadronTest::loseAheadOfItsComing);
         c.sentence("13: how many are left. NONE, doing nothing: not as told.", SquadronTest::loseNotAsTold);
         c.sentence("15: 0 REACH.", SquadronTest::toldReach);
         c.sentence("15: 1 the DAY on which it came (NONE).", SquadronTest::toldDayOfComing);
         c.sentence("15: 2 BAGS left.", SquadronTest::toldBagsLeft);
         c.sentence("15: 3 why it didn't pass on the latest DAY (0: it passed).", SquadronTest::toldWhyPassed);
-        c.sentence("15: 3 why it didn't pass on the latest DAY (0: it had come).", SquadronTest::toldWhyHadCome);
+        c.sentence("15: 3 why it didn't pass on the latest DAY (0: it had come).",
+                SquadronTest::toldWhyHadCome);
         c.sentence("15: 3 why it didn't pass (0: none went by since it was told).", SquadronTest::toldWhyNew);
         c.sentence("15: 4 DAYS in its REACH so far.", SquadronTest::toldDaysSoFar);
         c.sentence("15: 5 LEAVE (1).", SquadronTest::toldLeave);

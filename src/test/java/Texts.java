@@ -1,14 +1,14 @@
 /** Puts texts on a fleet's tape, twenty bytes a call, filled up with blanks. */
 final class Texts {
-    private static final int BYTES_A_FEED = 20;
+    static final int BYTES_A_FEED = 20;
 
     private Texts() {
     }
 
     static void feed(TributeFleet x, String text) {
         for (int at = 0; at < text.length(); at += BYTES_A_FEED) {
-            x.feed(number(text, at), number(text, at + 4), number(text, at + 8),
-                    number(text, at + 12), number(text, at + 16));
+            int[] five = numbers(text, at);
+            x.feed(five[0], five[1], five[2], five[3], five[4]);
         }
     }
 
@@ -18,11 +18,13 @@ final class Texts {
         return x.statute(text.length());
     }
 
-    private static int number(String text, int at) {
-        int number = 0;
-        for (int i = at; i < at + 4; i++) {
-            number = number << 8 | (i < text.length() ? text.charAt(i) : ' ');
+    /** The five numbers of the twenty bytes from a place on. */
+    static int[] numbers(String text, int at) {
+        int[] five = new int[5];
+        for (int i = 0; i < BYTES_A_FEED; i++) {
+            int sign = at + i < text.length() ? text.charAt(at + i) : ' ';
+            five[i / 4] = five[i / 4] << 8 | sign;
         }
-        return number;
+        return five;
     }
 }
